@@ -1,4 +1,4 @@
-/** Promise 10: unit. The limit of 600 lies behind the 512 calls that an object is used for. */
+/** Promise 10: unit. */
 public final class P10UnitTest {
     public static void main(String[] args) {
         Check check = new Check("P10");
@@ -27,6 +27,14 @@ public final class P10UnitTest {
             check.yes("unit " + i, y.unit(i % 2 == 0 ? 32 : 10));
         }
         check.is("rules() of 500 blanks", y.rules(), 0);
+
+        // The limit lies behind the 512 calls that have promised answers; it is kept all the same.
+        CellTests z = new CellTests();
+        for (int i = 0; i < 600; i++) {
+            check.yes("unit " + i, z.unit(32));
+        }
+        check.no("a 601st byte", z.unit('x'));
+        check.is("rules() of 600 blanks", z.rules(), 0);
         check.end();
     }
 }

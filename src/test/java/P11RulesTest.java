@@ -115,5 +115,12 @@ public final class P11RulesTest {
         CHECK.is("cls", x.cls(0), 7);
         CHECK.is("rules() of an empty text", x.rules(), 0);
         CHECK.is("no rules then", x.cls(0), 99);
+
+        for (int i = 1; i <= 5; i++) {
+            Cells.rules(x, "class " + i + " q " + i + " 9");
+            CHECK.is("clauses of earlier texts are gone", x.cls(0), i);
+            Cells.rules(x, "class 1 q 0 " + i + " class 2 q 0 5");
+            CHECK.is("clauses of earlier texts are gone", x.cls(0), i < 5 ? 2 : 1);
+        }
     }
 }

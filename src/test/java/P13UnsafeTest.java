@@ -30,6 +30,10 @@ public final class P13UnsafeTest {
         check.yes("a rest of 0, open", x.unsafe(1));
         x.step(1, 1, 1, 4000);
         check.yes("a bad rest, a good step", x.unsafe(1));
+
+        x.cell();
+        x.step(2, 1, 1, 5001);
+        check.yes("the only step is bad", x.unsafe(2));
         check.end();
     }
 }

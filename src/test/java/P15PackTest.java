@@ -51,6 +51,9 @@ public final class P15PackTest {
         due(x, 3, 2, 0, "000111--");
         due(x, 4, 2, 0, "00001111");
         due(x, 3, 1, 0, "000-----");
+        due(x, 5, 1, -1, "000-----");
+        due(x, 1, 5, -1, "000-----");
+        due(x, 3, 3, -1, "000-----");
         // Pairs (0 2) and (1 3) are alike in spread; a cell in none counts as more than one in 0.
         due(of(1, 2, 1, 2), 2, 1, 0, "0-0-");
         due(of(9, 1, 2, 2, 1), 2, 1, 0, "-0--0");

@@ -5,6 +5,7 @@ public final class P18FadeTest {
     public static void main(String[] args) {
         wrong();
         rows();
+        sixRows();
         rounding();
         greatest();
         CHECK.end();
@@ -50,6 +51,26 @@ public final class P18FadeTest {
         CHECK.is("from cycle 0 on", y.fade(0, 1), 4);
         CHECK.is("cycle 10000 is never reached", y.fade(0, 10000), 1);
         CHECK.is("no cycle", y.fade(0, 0), 8);
+    }
+
+    private static void sixRows() {
+        CellTests x = new CellTests();
+        Cells.charged(x, 64000);
+        int[] lost = {500, 0, 250, 500, 750, 1000};
+        long[] due = {64000, 32000, 32000, 24000, 12000, 3000, 0, 0};
+        for (int i = 0; i < lost.length; i++) {
+            x.row(i, lost[i]);
+        }
+        for (int cycles = 0; cycles < due.length; cycles++) {
+            CHECK.is("six rows, " + cycles + " cycles", x.fade(0, cycles), due[cycles]);
+        }
+        CellTests y = new CellTests();
+        Cells.charged(y, 64000);
+        for (int i = 0; i < 6; i++) {
+            y.row(10 * i, i == 4 ? 500 : 0);
+        }
+        CHECK.is("the fifth row's ten cycles", y.fade(0, 50), 63);
+        CHECK.is("the sixth row ends the fifth", y.fade(0, 10000), 63);
     }
 
     private static void rounding() {
