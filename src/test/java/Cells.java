@@ -1,6 +1,24 @@
-/** What many tests need: cells with given charges and voltages, texts told whole, records whole. */
+/** What many tests need: objects with cells, texts told whole, records and packs whole. */
 final class Cells {
     private Cells() {
+    }
+
+    /** A new object with so many new cells. */
+    static CellTests fresh(int cells) {
+        CellTests x = new CellTests();
+        for (int i = 0; i < cells; i++) {
+            x.cell();
+        }
+        return x;
+    }
+
+    /** A new object with a cell of each charge, none of them open or unsafe. */
+    static CellTests of(int... charges) {
+        CellTests x = new CellTests();
+        for (int charge : charges) {
+            charged(x, charge);
+        }
+        return x;
     }
 
     /** One more cell that is neither open nor unsafe, of the given charge. */
@@ -28,12 +46,17 @@ final class Cells {
 
     static String record(CellTests x, int cell) {
         StringBuilder bytes = new StringBuilder();
-        for (int i = 0; i < 100 && x.record(cell, i) != CellTests.NONE; i++) {
-            bytes.append((char) x.record(cell, i));
+        for (int i = 0; i < 20; i++) {
+            int b = x.record(cell, i);
+            if (b == CellTests.NONE) {
+                break;
+            }
+            bytes.append((char) b);
         }
         return bytes.toString();
     }
 
+    /** The pack of each of the 8 cells, '-' for those in none. */
     static String packs(CellTests x) {
         StringBuilder packs = new StringBuilder();
         for (int cell = 0; cell < 8; cell++) {

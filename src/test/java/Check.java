@@ -8,18 +8,22 @@ final class Check {
     }
 
     void is(String call, long got, long due) {
-        if (got != due) {
+        is(call, String.valueOf(got), String.valueOf(due));
+    }
+
+    void is(String call, String got, String due) {
+        if (!got.equals(due)) {
             wrong++;
             System.out.println(test + ": " + call + " answered " + got + ", due is " + due);
         }
     }
 
     void yes(String call, boolean got) {
-        is(call, got ? 1 : 0, 1);
+        is(call, String.valueOf(got), "true");
     }
 
     void no(String call, boolean got) {
-        is(call, got ? 1 : 0, 0);
+        is(call, String.valueOf(got), "false");
     }
 
     void end() {

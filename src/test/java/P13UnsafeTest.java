@@ -1,39 +1,114 @@
 /** Promise 13: unsafe. */
 public final class P13UnsafeTest {
+    private static final Check CHECK = new Check("P13");
+
     public static void main(String[] args) {
-        Check check = new Check("P13");
-        CellTests x = new CellTests();
-        check.no("no cell", x.unsafe(0));
-        x.cell();
-        check.no("cell -1", x.unsafe(-1));
-        check.no("cell 1", x.unsafe(1));
-        check.no("a new cell", x.unsafe(0));
+        restBelow1000();
+        restAbove4500();
+        stepAbove5000();
+        lastOnesAlone();
+        either();
+        openOnes();
+        noSuchCell();
+        CHECK.end();
+    }
+
+    private static void due(CellTests x, String when, boolean unsafe) {
+        CHECK.is("unsafe, " + when, String.valueOf(x.unsafe(0)), String.valueOf(unsafe));
+    }
+
+    private static void rest(int volt, boolean unsafe) {
+        CellTests x = Cells.of(5);
+        x.rest(0, 2, volt);
+        due(x, "a rest of " + volt, unsafe);
+    }
+
+    private static void step(int volt, boolean unsafe) {
+        CellTests x = Cells.of(5);
+        x.step(0, 1, 1, volt);
+        due(x, "a step of " + volt, unsafe);
+    }
+
+    /** Terms, "the voltage of its last rest is below 1000". */
+    private static void restBelow1000() {
+        rest(0, true);
+        rest(999, true);
+        rest(1000, false);
+        rest(1001, false);
+    }
+
+    /** Terms, "the voltage of its last rest is below 1000 or above 4500". */
+    private static void restAbove4500() {
+        rest(4499, false);
+        rest(4500, false);
+        rest(4501, true);
+        rest(10000, true);
+    }
+
+    /** Terms, "or its last step's is above 5000": none is too low for a step. */
+    private static void stepAbove5000() {
+        step(0, false);
+        step(999, false);
+        step(4501, false);
+        step(5000, false);
+        step(5001, true);
+        step(10000, true);
+    }
+
+    /** Terms, "its last rest", "its last step's": those before them do not count. */
+    private static void lastOnesAlone() {
+        CellTests x = Cells.of(5);
+        x.step(0, 1, 1, 5001);
+        due(x, "the last step is", true);
         x.step(0, 1, 1, 5000);
-        check.no("a step of 5000", x.unsafe(0));
-        x.step(0, 1, 1, 5001);
-        check.yes("a step of 5001, open", x.unsafe(0));
-        x.step(0, 1, 1, 0);
-        check.no("the last step alone counts", x.unsafe(0));
-        x.rest(0, 1, 999);
-        check.yes("a rest of 999", x.unsafe(0));
-        x.rest(0, 2, 1000);
-        check.no("a rest of 1000", x.unsafe(0));
-        x.rest(0, 3, 4501);
-        check.yes("a rest of 4501", x.unsafe(0));
-        x.rest(0, 4, 4500);
-        check.no("a rest of 4500", x.unsafe(0));
-        x.step(0, 1, 1, 5001);
-        check.yes("a good rest, a bad step", x.unsafe(0));
+        due(x, "the step before was", false);
+        x.rest(0, 2, 999);
+        due(x, "the last rest is", true);
+        x.rest(0, 3, 1000);
+        due(x, "the rest before was", false);
+    }
 
-        x.cell();
-        x.rest(1, 0, 0);
-        check.yes("a rest of 0, open", x.unsafe(1));
-        x.step(1, 1, 1, 4000);
-        check.yes("a bad rest, a good step", x.unsafe(1));
+    /** Terms, "or its last step's": one of the two is enough. */
+    private static void either() {
+        CellTests x = Cells.of(5);
+        x.step(0, 1, 1, 5001);
+        due(x, "a bad step, a good rest", true);
+        x.rest(0, 2, 4501);
+        due(x, "both bad", true);
+        x.step(0, 1, 1, 5000);
+        due(x, "a good step, a bad rest", true);
+        x.rest(0, 3, 4500);
+        due(x, "both good", false);
+    }
 
+    /** Terms, "It is UNSAFE when": an open cell by what it has; what it has not makes it not so. */
+    private static void openOnes() {
+        CellTests x = Cells.fresh(1);
+        due(x, "neither step nor rest", false);
+        x.step(0, 1, 1, 5000);
+        due(x, "a good step alone", false);
+        x.step(0, 1, 1, 5001);
+        due(x, "a bad step alone", true);
+        CellTests y = Cells.fresh(1);
+        y.rest(0, 1, 1000);
+        due(y, "a good rest alone", false);
+        y.rest(0, 2, 999);
+        due(y, "a bad rest alone", true);
+    }
+
+    /** Promise 13, "false when there is none such". */
+    private static void noSuchCell() {
+        CellTests x = new CellTests();
+        CHECK.no("unsafe(0) without cells", x.unsafe(0));
         x.cell();
-        x.step(2, 1, 1, 5001);
-        check.yes("the only step is bad", x.unsafe(2));
-        check.end();
+        x.cell();
+        x.rest(0, 1, 0);
+        x.rest(1, 1, 0);
+        int[] wrong = {-1, 2, 8, Integer.MIN_VALUE, Integer.MAX_VALUE};
+        for (int cell : wrong) {
+            CHECK.no("unsafe(" + cell + ")", x.unsafe(cell));
+        }
+        CHECK.yes("unsafe(0)", x.unsafe(0));
+        CHECK.yes("unsafe(1)", x.unsafe(1));
     }
 }
