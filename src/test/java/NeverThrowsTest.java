@@ -22,6 +22,7 @@ public final class NeverThrowsTest {
         check.end();
     }
 
+    /** Eight cells that are given more steps and rests than they take, and more rows than six. */
     private static CellTests full() {
         CellTests x = new CellTests();
         for (int cell = 0; cell < 8; cell++) {
@@ -37,6 +38,7 @@ public final class NeverThrowsTest {
         return x;
     }
 
+    /** All promises: every call with odd arguments in every place. */
     private static void oddOn(CellTests x) {
         for (int a : ODD) {
             x.charge(a);
@@ -67,6 +69,7 @@ public final class NeverThrowsTest {
         }
     }
 
+    /** Promises 10 to 12: more bytes than the text takes, cut off at its end anywhere. */
     private static void longTexts() {
         String[] parts = {"class 1 ", "q 0 0 ", "class", " ", "1", "-", "\n", "class 1 r 0 9 ", "r"};
         for (String start : parts) {

@@ -8,7 +8,6 @@ public final class P10UnitTest {
         everyByteInItsOrder();
         asManyAsCalls();
         sixHundred();
-        emptiedTextTakesMore();
         CHECK.end();
     }
 
@@ -78,16 +77,7 @@ public final class P10UnitTest {
         CHECK.no("a 601st byte", x.unit('x'));
         CHECK.no("a 602nd byte", x.unit('x'));
         CHECK.is("rules() of 600 blanks", x.rules(), 0);
-    }
-
-    /** Promise 11, "Reads the text, which is empty then": it takes as many bytes as at first. */
-    private static void emptiedTextTakesMore() {
-        CellTests x = new CellTests();
-        for (int i = 0; i < 600; i++) {
-            x.unit(32);
-        }
-        x.rules();
-        CHECK.yes("a byte behind rules()", x.unit('x'));
+        CHECK.yes("a byte of the text that is empty then", x.unit('x'));
         CHECK.is("rules() of it", x.rules(), -1);
     }
 }

@@ -12,6 +12,7 @@ public final class P11RulesTest {
         classNumber();
         letters();
         clausesNoneOrMore();
+        upToTheNextClass();
         digits();
         minus();
         firstAtMostSecond();
@@ -145,6 +146,28 @@ public final class P11RulesTest {
         CellTests y = Cells.of(5);
         CHECK.is("83 clauses", Cells.rules(y, most + " q 6 6"), 1);
         CHECK.is("cls when the last one does not hold", y.cls(0), 99);
+    }
+
+    /** Terms, "a sentence goes up to the next word class, or the end": whose each clause is. */
+    private static void upToTheNextClass() {
+        String[] texts = {
+            "class 1 q 5 5 class 2 q 6 6", "class 1 q 5 5 class 2 q 6 6 ",
+            "class 1 q 5 5\nclass 2 q 6 6\n", "class 1 q 5 5 v 0 9999 class 2 class 3 q 7 7",
+        };
+        for (String text : texts) {
+            CellTests x = Cells.of(5, 6);
+            Cells.rules(x, text);
+            CHECK.is("cls(0) by '" + text + "'", x.cls(0), 1);
+            CHECK.is("cls(1) by '" + text + "'", x.cls(1), 2);
+        }
+        CellTests y = Cells.of(5, 6);
+        Cells.rules(y, "class 1 class 2 q 6 6");
+        CHECK.is("cls(0) by a sentence without clauses", y.cls(0), 1);
+        Cells.rules(y, "class 1 q 6 6 class 2");
+        CHECK.is("cls(0) by the last one without clauses", y.cls(0), 2);
+        Cells.rules(y, "class 1 q 5 6 q 6 7 class 2 q 4 5");
+        CHECK.is("cls(0) by both clauses of the first", y.cls(0), 2);
+        CHECK.is("cls(1) by both clauses of the first", y.cls(1), 1);
     }
 
     /** Terms, "NUMBERS are words of one to six digits": none, one, six and seven of them. */

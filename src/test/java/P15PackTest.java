@@ -6,6 +6,7 @@ public final class P15PackTest {
         oneToFourPacks();
         oneToFourInAPack();
         enoughCells();
+        noCellInTwo();
         notOpen();
         notUnsafe();
         spreads();
@@ -70,6 +71,27 @@ public final class P15PackTest {
                     if (cells < 8) {
                         Cells.charged(x, 5);
                     }
+                }
+            }
+        }
+    }
+
+    /** Terms, "P packs of n cells each", "no cell is in two": counted, whatever the charges. */
+    private static void noCellInTwo() {
+        for (int n = 1; n <= 4; n++) {
+            for (int packs = 1; packs <= 4 && n * packs <= 8; packs++) {
+                CellTests x = Cells.of(31, 7, 7, 90, -4, 12, 50, 8);
+                x.pack(n, packs);
+                int[] sizes = new int[packs];
+                for (int cell = 0; cell < 8; cell++) {
+                    int pack = x.packOf(cell);
+                    CHECK.yes("pack " + pack + " of " + packs, pack >= -1 && pack < packs);
+                    if (pack >= 0 && pack < packs) {
+                        sizes[pack]++;
+                    }
+                }
+                for (int pack = 0; pack < packs; pack++) {
+                    CHECK.is("cells in pack " + pack + " of " + packs, sizes[pack], n);
                 }
             }
         }
