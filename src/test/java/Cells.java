@@ -1,5 +1,8 @@
 /** What many tests need: objects with cells, texts told whole, records and packs whole. */
 final class Cells {
+    /** Numbers that no cell has when there are two. */
+    static final int[] NONE_OF_TWO = {-1, 2, 7, 8, Integer.MIN_VALUE, Integer.MAX_VALUE};
+
     private Cells() {
     }
 

@@ -111,8 +111,7 @@ public final class P05StepTest {
         CHECK.no("cell 0 of none", x.step(0, 3600, 1, 1));
         x.cell();
         x.cell();
-        int[] wrong = {-1, 2, 7, 8, Integer.MIN_VALUE, Integer.MAX_VALUE};
-        for (int cell : wrong) {
+        for (int cell : Cells.NONE_OF_TWO) {
             CHECK.no("cell " + cell, x.step(cell, 3600, 1, 1));
         }
         CHECK.is("charge(0)", x.charge(0), 0);

@@ -86,8 +86,7 @@ public final class P06RestTest {
         CHECK.no("cell 0 of none", x.rest(0, 0, 1));
         x.cell();
         x.cell();
-        int[] wrong = {-1, 2, 7, 8, Integer.MIN_VALUE, Integer.MAX_VALUE};
-        for (int cell : wrong) {
+        for (int cell : Cells.NONE_OF_TWO) {
             CHECK.no("cell " + cell, x.rest(cell, 5, 0));
         }
         CHECK.no("unsafe(0)", x.unsafe(0));

@@ -125,8 +125,7 @@ public final class P08ResistanceTest {
         x.step(1, 1, 3, 3007);
         CHECK.is("cell 0", x.resistance(0, 0), -1);
         CHECK.is("cell 1", x.resistance(1, 0), 7);
-        int[] wrong = {-1, 2, 8, Integer.MIN_VALUE, Integer.MAX_VALUE};
-        for (int cell : wrong) {
+        for (int cell : Cells.NONE_OF_TWO) {
             CHECK.is("above, cell " + cell, x.resistance(cell, 0), -1);
             CHECK.is("below, cell " + cell, x.resistance(cell, 1), -1);
         }

@@ -107,8 +107,7 @@ public final class P09LossTest {
         x.rest(1, 3, 3000);
         CHECK.is("cell 0", x.loss(0, 0), -1);
         CHECK.is("cell 1", x.loss(1, 0), 7);
-        int[] wrong = {-1, 2, 8, Integer.MIN_VALUE, Integer.MAX_VALUE};
-        for (int cell : wrong) {
+        for (int cell : Cells.NONE_OF_TWO) {
             CHECK.is("above, cell " + cell, x.loss(cell, 0), -1);
             CHECK.is("below, cell " + cell, x.loss(cell, 1), -1);
         }

@@ -60,8 +60,7 @@ public final class P12ClsTest {
         CHECK.is("cls(0) without cells", x.cls(0), -1);
         Cells.charged(x, 1);
         Cells.charged(x, 1);
-        int[] wrong = {-1, 2, 8, Integer.MIN_VALUE, Integer.MAX_VALUE};
-        for (int cell : wrong) {
+        for (int cell : Cells.NONE_OF_TWO) {
             CHECK.is("cls(" + cell + ")", x.cls(cell), -1);
         }
         CHECK.is("cls(0)", x.cls(0), 5);

@@ -104,8 +104,7 @@ public final class P13UnsafeTest {
         x.cell();
         x.rest(0, 1, 0);
         x.rest(1, 1, 0);
-        int[] wrong = {-1, 2, 8, Integer.MIN_VALUE, Integer.MAX_VALUE};
-        for (int cell : wrong) {
+        for (int cell : Cells.NONE_OF_TWO) {
             CHECK.no("unsafe(" + cell + ")", x.unsafe(cell));
         }
         CHECK.yes("unsafe(0)", x.unsafe(0));

@@ -88,8 +88,7 @@ public final class P14MayTest {
         due(x, 0, "cell 0 of none", "");
         Cells.charged(x, 5);
         Cells.charged(x, 5);
-        int[] wrong = {-1, 2, 8, Integer.MIN_VALUE, Integer.MAX_VALUE};
-        for (int cell : wrong) {
+        for (int cell : Cells.NONE_OF_TWO) {
             due(x, cell, "cell " + cell, "");
         }
         due(x, 1, "cell 1", "0123");

@@ -41,8 +41,7 @@ public final class P16PackOfTest {
         Cells.charged(x, 1);
         Cells.charged(x, 1);
         x.pack(1, 2);
-        int[] wrong = {-1, 2, 7, 8, Integer.MIN_VALUE, Integer.MAX_VALUE};
-        for (int cell : wrong) {
+        for (int cell : Cells.NONE_OF_TWO) {
             CHECK.is("packOf(" + cell + ")", x.packOf(cell), -1);
         }
         CHECK.is("packOf(1)", x.packOf(1), 1);

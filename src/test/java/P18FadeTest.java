@@ -28,8 +28,7 @@ public final class P18FadeTest {
         CHECK.is("cell 0 of none", x.fade(0, 0), Long.MIN_VALUE);
         Cells.charged(x, 5);
         Cells.charged(x, 6);
-        int[] wrong = {-1, 2, 8, Integer.MIN_VALUE, Integer.MAX_VALUE};
-        for (int cell : wrong) {
+        for (int cell : Cells.NONE_OF_TWO) {
             CHECK.is("cell " + cell, x.fade(cell, 0), Long.MIN_VALUE);
         }
         CHECK.is("cell 0", x.fade(0, 0), 5);

@@ -47,8 +47,7 @@ public final class P19RecordTest {
         due(x, 0, "");
         x.cell();
         x.cell();
-        int[] wrong = {-1, 2, 8, Integer.MIN_VALUE, Integer.MAX_VALUE};
-        for (int cell : wrong) {
+        for (int cell : Cells.NONE_OF_TWO) {
             due(x, cell, "");
         }
         due(x, 1, "1 0 -1");
