@@ -20,6 +20,7 @@ public final class P11RulesTest {
         moreShouldCome();
         textIsEmptyThen();
         rulesThen();
+        noClausesThen();
         rulesStay();
         noneThen();
         CHECK.end();
@@ -289,6 +290,20 @@ public final class P11RulesTest {
             CHECK.is("the clauses before are gone", x.cls(0), i);
             Cells.rules(x, "class 1 q 0 " + i + " class 2 q 0 5");
             CHECK.is("the clauses before are gone", x.cls(0), i < 5 ? 2 : 1);
+        }
+    }
+
+    /** Promise 11, "(they are the rules then)": of a text without clauses, whatever came before. */
+    private static void noClausesThen() {
+        CellTests x = Cells.of(5);
+        String[] before = {"class 1 q 9 9 class 2 q 8 8", "class 1 q 9", "class 1 q 9 9 q 8 8"};
+        for (String text : before) {
+            Cells.rules(x, text);
+            Cells.rules(x, text);
+            for (int i = 3; i < 6; i++) {
+                Cells.rules(x, "class " + i);
+                CHECK.is("cls by 'class " + i + "' behind '" + text + "'", x.cls(0), i);
+            }
         }
     }
 
