@@ -440,16 +440,19 @@ public final class CellTests {
             set.clear();
             due = DUE_FIRST_CLASS;
             int words = 0;
-            for (int start = 0; start < length && start < bytes.length; start++) {
-                if (isBlank(bytes[start])) {
+            int start = 0;
+            // One step beyond the text: its end ends a word as a blank does.
+            for (int i = 0; i <= length; i++) {
+                if (i < length && i < bytes.length && !isBlank(bytes[i])) {
                     continue;
                 }
-                int end = endOfWord(start);
-                if (!takeWord(set, start, end)) {
-                    return -1 - words;
+                if (start < i) {
+                    if (!takeWord(set, start, i)) {
+                        return -1 - words;
+                    }
+                    words++;
                 }
-                words++;
-                start = end;
+                start = i + 1;
             }
             boolean whole = due == DUE_FIRST_CLASS || due == DUE_CLAUSE_OR_CLASS;
             return whole ? set.sentences : -1 - words;
@@ -457,14 +460,6 @@ public final class CellTests {
 
         private static boolean isBlank(char b) {
             return b == ' ' || b == '\n';
-        }
-
-        private int endOfWord(int start) {
-            int end = start;
-            while (end < length && end < bytes.length && !isBlank(bytes[end])) {
-                end++;
-            }
-            return end;
         }
 
         private boolean takeWord(RuleSet set, int start, int end) {
